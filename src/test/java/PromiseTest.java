@@ -102,7 +102,13 @@ public final class PromiseTest {
         valleyFault("house 0 0;", -8, 6);
         valleyFault("house 99999999999999999999 0;", -8, 6);
         valleyFault("house 4294967297 0;", -8, 6);
+        valleyFault("house 10 0;", -8, 6);
         valleyFault("house 1 10;", -8, 8);
+        valleyFault("housez 1 0;", -9, 0);
+        valleyFault("housea 1 0;", -9, 0);
+        valleyFault("house 1 0;house 1 0;debt 0 1 10 1;", -8, 29);
+        valleyFault("house 1 0;house 1 0;debt 0 1 0 0;", -8, 31);
+        valleyFault("house 1 0;house 1 0;debt 0 1 0 31;", -8, 31);
         valleyFault("house 1 0;debt 0 1 0 1;house 1 0;", -8, 17);
         valleyFault("house 1 0;house 1 0;debt 1 1 0 1;", -8, 27);
         valleyFault("house 1 0;house 1 0;debt 2 1 0 1;", -8, 25);
@@ -255,6 +261,9 @@ public final class PromiseTest {
         Check.due("day 400", x.told(2), 400);
         Check.due("refused at 400", Check.work(x, "day;day;"), 0);
         Check.due("refused", x.told(10), 2);
+        DebtMiller z = usual();
+        Check.due("as many steps as a text holds", Check.work(z, "day;".repeat(37) + "  "), 37);
+        Check.due("as many in a loop", Check.work(z, "again 1[" + "day;".repeat(35) + "];"), 35);
         DebtMiller y = Check.with(DOZEN + "flour 0 99;flour 1 99;");
         Check.law(y, "99");
         Check.work(y, "grind 0;grind 1;grind 2;grind 3;grind 4;grind 5;grind 6;grind 7;grind 8;grind 9;grind 10;grind 11;");
@@ -492,6 +501,12 @@ public final class PromiseTest {
         Check.due("fewer before lesser bits", y.plan(0, 19), 8);
         Check.due("of one the lesser bits", y.plan(0, 18), 4);
         Check.due("of two", y.plan(0, 30), 9);
+        DebtMiller z = Check.with(DOZEN + "water 12;");
+        Check.due("all twelve, by all the water", z.plan(0, 24), 4095);
+        Check.due("eleven", z.plan(0, 22), 2047);
+        Check.due("not so much", z.plan(0, 25), -1);
+        Check.law(z, "99");
+        Check.due("nine", z.plan(0, 99), 1);
     }
 
     private static void promise17() {
@@ -590,6 +605,12 @@ public final class PromiseTest {
         Check.law(y, "1");
         Check.due("of alike the first", y.ask(0), 1);
         Check.due("left", y.ask(1), 8);
+        DebtMiller z = Check.with(DOZEN);
+        Check.law(z, "99");
+        Check.due("the most flour there can be", z.ask(1), 924);
+        Check.work(z, "forgive 0;forgive 1;forgive 2;forgive 3;forgive 4;forgive 5;forgive 6;forgive 7;forgive 8;forgive 9;forgive 10;");
+        Check.due("one debt, one house to ask", z.ask(0), 0);
+        Check.due("left", z.ask(1), 1);
         DebtMiller none = new DebtMiller();
         Check.due("no houses", none.ask(1), -1);
     }
