@@ -91,6 +91,36 @@ final class Check {
         return x.book(feed(x, text));
     }
 
+    /** What can be asked of the valley as it is: told (but for the refused steps), houses, debts; up to some 150 calls. */
+    static String valleySeen(DebtMiller x) {
+        StringBuilder b = new StringBuilder();
+        for (int what = 0; what < 12; what++) {
+            b.append(what == 10 ? 0 : x.told(what)).append(' ');
+        }
+        for (int h = 0; h < x.told(0); h++) {
+            for (int what = 0; what < 8; what++) {
+                b.append(x.house(h, what)).append(' ');
+            }
+        }
+        for (int d = 0; d < x.told(1); d++) {
+            for (int what = 0; what < 7; what++) {
+                b.append(x.debt(d, what)).append(' ');
+            }
+        }
+        return b.append(x.ground(0)).append(' ').append(x.ground(2)).toString();
+    }
+
+    /** All that can be seen of an object, but for fault() and status. */
+    static String seen(DebtMiller x) {
+        return valleySeen(x) + " / " + x.told(10) + " " + x.count(0) + " " + x.count(1) + " " + x.count(2);
+    }
+
+    static void same(String call, String got, String want) {
+        if (!got.equals(want)) {
+            tell(call + ": was " + want + ", became " + got);
+        }
+    }
+
     static DebtMiller with(String valley) {
         DebtMiller x = new DebtMiller();
         if (valley(x, valley) < 0) {
